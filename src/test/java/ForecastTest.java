@@ -75,8 +75,20 @@ final class ForecastTest {
             Check.due("14: " + row[0], x.stills(row[0]), row[1]);
         }
         Check.due("14: none", Check.tunnel(WALKERS).stills(49), Check.NONE);
+        Check.due("14: behind 200", slowlyStilled(93).stills(0), 200);
+        Check.due("14: behind 200 just so", slowlyStilled(94).stills(6), 200);
+        Check.due("14: behind 206", slowlyStilled(94).stills(5), Check.NONE);
         Check.due("14: below", x.stills(-1), Check.BEYOND);
         Check.due("14: above", x.stills(100), Check.BEYOND);
+    }
+
+    /** Day 5; in six days a child meets a bride twice at her lift: 32 less, 30 more. */
+    private static TunnelPeace slowlyStilled(int guns) {
+        TunnelPeace x = Check.tunnel("child 0 at 14;bride 1 season 0;place 1 14;place 3 14;place 5 15");
+        x.place(0, 14);
+        x.go(5);
+        x.guns(guns);
+        return x;
     }
 
     private static void meets() {

@@ -30,6 +30,7 @@ final class PlanTest {
         Check.due("18: two steps", Check.tunnel("walker 0 at 5;walker 1 at 8").kindFor(0, 1), 4);
         Check.due("18: three steps", Check.tunnel("child 0 at 4;walker 1 at 8").kindFor(0, 1), 6);
         Check.due("18: too far", Check.tunnel("child 0 at 1;walker 1 at 8").kindFor(0, 1), 0);
+        Check.due("18: 98 of 99", Check.tunnel("guns 99;walker 0 at 3;soldier 1 at 8").kindFor(0, 1), 6);
         TunnelPeace x = Check.tunnel("bride 0 at 7;walker 1 at 8");
         Check.due("18: no day", x.kindFor(0, 0), 0);
         int[][] wrong = {{-1, 1}, {2, 1}, {0, -1}, {0, 41}};

@@ -96,6 +96,9 @@ final class TextTest {
         dueFault("7", 0);
         dueFault("lane 3", 0);
         dueFault("walkers 0", 0);
+        dueFault("walkerz 0", 0);
+        dueFault("walkera 0", 0);
+        dueFault("talker 0", 0);
         dueFault("Walker 0", 0);
         dueFault("walker", 6);
         dueFault("walker  ", 8);
@@ -148,6 +151,7 @@ final class TextTest {
         Check.due("29: guns", x.now(1), 50);
         Check.due("29: eight", Check.read(x, "child 1;child 1;guns 3"), 3);
         Check.due("29: full", Check.read(x, "child"), -1);
+        Check.due("29: full, and no word", Check.read(x, "1"), -1);
         Check.due("29: guns yet", Check.read(x, "guns 9"), 1);
         Check.due("29: no finding", x.status(-1), 0);
     }
