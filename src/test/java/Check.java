@@ -1,4 +1,4 @@
-/** Compares answers with those that are due, and tells at the end how it went. */
+/** Compares answers with those that are due, sentence by sentence of the document, and tells at the end how it went. */
 final class Check {
     static final long BEYOND = -1000001;
     static final long FULL = -1000002;
@@ -8,25 +8,39 @@ final class Check {
     static final long MISSING = -1000006;
     static final long SIZE = -1000007;
 
-    static final int WALKER = 0;
-    static final int MERCHANT = 1;
-    static final int SOLDIER = 2;
-    static final int GENERAL = 3;
-    static final int MARSHAL = 4;
-    static final int CHILD = 5;
-    static final int BRIDE = 6;
+    static final int LEAST = Integer.MIN_VALUE;
+    static final int MOST = Integer.MAX_VALUE;
 
     private static int checks = 0;
     private static int wrong = 0;
+    private static String sentence = "";
+    private static int checksBefore = -1;
 
     private Check() {
+    }
+
+    /**
+     * Begins the checks of one sentence, or of a part of it: where it stands (the number of a promise, or the
+     * word in capitals with which a line of the Terms begins), and its own words, which SentencesTest looks up.
+     */
+    static void sentence(String where, String words) {
+        endSentence();
+        sentence = where + ", '" + words + "': ";
+        checksBefore = checks;
+    }
+
+    private static void endSentence() {
+        if (checks == checksBefore) {
+            wrong++;
+            System.out.println(sentence + "nothing was checked");
+        }
     }
 
     static void due(String call, long got, long want) {
         checks++;
         if (got != want) {
             wrong++;
-            System.out.println(call + " answered " + got + ", due is " + want);
+            System.out.println(sentence + call + " answered " + got + ", due is " + want);
         }
     }
 
@@ -40,9 +54,15 @@ final class Check {
         return x.text();
     }
 
+    /** Four bytes a call, as an object is used for at most 512 calls. */
     static void feed(TunnelPeace x, String text) {
-        for (int i = 0; i < text.length(); i++) {
-            x.feed(text.charAt(i), 1);
+        for (int i = 0; i < text.length(); i += 4) {
+            int n = Math.min(4, text.length() - i);
+            int bytes = 0;
+            for (int k = 0; k < n; k++) {
+                bytes = bytes << 8 | text.charAt(i + k);
+            }
+            x.feed(bytes, n);
         }
     }
 
@@ -53,16 +73,17 @@ final class Check {
         return x;
     }
 
-    /** Sheet 0 gets 8-bit numbers. */
-    static void tell(TunnelPeace x, int... numbers) {
-        x.sheet(0, 8, numbers.length);
+    /** A sheet gets numbers. */
+    static void tell(TunnelPeace x, int s, int bits, int... numbers) {
+        x.sheet(s, bits, numbers.length);
         for (int i = 0; i < numbers.length; i++) {
-            x.write(0, i, numbers[i]);
+            x.write(s, i, numbers[i]);
         }
     }
 
     /** Ends the program with 1 if an answer was wrong. */
     static void end(String test) {
+        endSentence();
         System.out.println(test + ": " + checks + " checks, " + wrong + " wrong");
         if (wrong != 0) {
             System.exit(1);

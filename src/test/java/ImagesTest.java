@@ -1,106 +1,180 @@
 /** Promises 37 to 41: images, counts and the status. */
 final class ImagesTest {
     public static void main(String[] args) {
-        imageAndUndo();
-        latestStays();
+        image();
+        undo();
+        undoNone();
         tear();
         count();
         status();
-        findingsChangeNothing();
+        statusBeyond();
         Check.end("ImagesTest");
     }
 
-    private static void imageAndUndo() {
-        TunnelPeace x = Check.tunnel("walker 0 at 3 season 9 bags 2 met 4;guns 8;place 2 3");
-        x.hold(1, 0);
-        x.seed(5);
-        x.go(1);
-        x.sheet(0, 8, 1);
-        Check.due("37: image", x.image(), 1);
-        int[] was = new int[6];
-        for (int what = 0; what < 6; what++) {
-            was[what] = x.of(0, what);
+    /** Changes all that can be changed: the tunnel, people, days, draws, spots, and the tape and sheets. */
+    private static void changeAll(TunnelPeace x) {
+        x.wipe();
+        Check.read(x, "soldier 1;guns 3;place 2 9");
+        for (int i = 0; i < 5; i++) {
+            int[] other = {3, 1 - x.of(i, 1), 11, 77, 6, 55};
+            for (int what = 0; what < 6; what++) {
+                x.change(i, what, other[what]);
+            }
         }
-        Check.read(x, "child 1;guns 3;place 2 9");
-        x.hold(1, -1);
-        x.hold(2, 1);
+        for (int i = 0; i < 6; i++) {
+            x.place(i, 10 + i);
+        }
+        x.hold(2, -1);
+        x.hold(3, 4);
+        x.hold(5, 0);
         x.go(7);
         x.stroll(3);
-        x.change(0, 0, 4);
-        x.change(0, 1, 1);
-        x.change(0, 4, 7);
-        x.write(0, 0, 6);
-        x.feed(65, 1);
-        x.guns(100);
-        Check.due("38: day", x.undo(), 1);
-        for (int what = 0; what < 6; what++) {
-            Check.due("38: of 0 " + what, x.of(0, what), was[what]);
-        }
-        Check.due("38: day then", x.now(0), 1);
-        Check.due("38: guns", x.now(1), 13);
-        Check.due("38: people", x.count(1), 1);
-        Check.due("38: z", x.count(6), 5);
-        Check.due("38: spots", x.count(7), 1);
-        Check.due("38: spot 1", x.as(1, 0), 0);
-        Check.due("38: list", x.listed(2), 3);
-        Check.due("38: the tape stays", x.count(5), 1);
-        x.change(0, 2, 6);
-        Check.due("38: sheets stay", x.judge(0), 0);
-        Check.due("38: status stays", x.status(0), 1);
+        x.guns(2);
     }
 
-    private static void latestStays() {
+    private static void image() {
+        Check.sentence("37", "All but THE TAPE and SHEETS is kept: 1.");
         TunnelPeace x = new TunnelPeace();
-        Check.due("38: none", x.undo(), Check.NONE);
+        TunnelPeace y = new TunnelPeace();
+        Twins.rich(x);
+        Twins.rich(y);
+        Check.due("image", x.image(), 1);
+        y.image();
+        Twins.dueAlike("behind image()", x, y);
+        TunnelPeace changed = new TunnelPeace();
+        TunnelPeace same = new TunnelPeace();
+        Twins.rich(changed);
+        Twins.rich(same);
+        changed.image();
+        same.image();
+        changeAll(changed);
+        Check.due("the day that was", changed.undo(), 1);
+        Check.due("the tape isn't kept", changed.count(5), 0);
+        Check.feed(changed, "guns 3");
+        Twins.dueAlike("undone", changed, same);
+        TunnelPeace sheets = Check.tunnel("child 0 at 6");
+        sheets.image();
+        Check.tell(sheets, 0, 8, 6);
+        sheets.feed(0, 3);
+        sheets.undo();
+        Check.due("the sheet stays", sheets.judge(0), 0);
+        Check.due("the tape stays", sheets.count(5), 3);
+        sheets.image();
+        sheets.sheet(0, 0, 0);
+        sheets.wipe();
+        sheets.undo();
+        Check.due("the sheet stays missing", sheets.judge(0), Check.MISSING);
+        Check.due("the tape stays empty", sheets.count(5), 0);
+        Check.due("of nothing, too", new TunnelPeace().image(), 1);
+    }
+
+    private static void undo() {
+        Check.sentence("38", "It becomes what was kept latest (which stays): DAY.");
+        TunnelPeace x = new TunnelPeace();
         x.image();
         x.go(2);
         x.image();
         x.go(3);
-        Check.due("38: latest", x.undo(), 2);
-        Check.due("38: it stays", x.undo(), 2);
+        Check.due("latest", x.undo(), 2);
+        Check.due("it stays", x.undo(), 2);
         x.go(4);
-        Check.due("38: it stays yet", x.undo(), 2);
+        Check.due("it stays yet", x.undo(), 2);
         x.person(0, 0);
-        Check.due("38: it is no part of it", x.undo(), 2);
-        Check.due("38: nobody", x.count(1), 0);
+        x.hold(0, 0);
+        Check.due("it is no part of it", x.undo(), 2);
+        Check.due("nobody", x.count(1), 0);
+        Check.due("nothing is held", x.as(0, 0), Check.MISSING);
+        Check.due("on day 0", undoneOnDay0(), 0);
+        TunnelPeace more = Check.tunnel("child 0;child 1");
+        more.image();
+        TunnelPeace less = Check.tunnel("child 0;child 1;child 0");
+        less.image();
+        Check.read(less, "child 1;child 0");
+        less.undo();
+        Check.due("three again", less.count(1), 3);
+        Check.due("no fourth", less.of(3, 0), Check.BEYOND);
+        Check.due("no fourth to hold", less.hold(0, 3), Check.BEYOND);
+    }
+
+    private static int undoneOnDay0() {
+        TunnelPeace x = new TunnelPeace();
+        x.image();
+        x.go(60);
+        return x.undo();
+    }
+
+    private static void undoNone() {
+        Check.sentence("38", "NONE: nothing is kept.");
+        Twins.refusedFrom(x -> { }, Check.NONE, "undo");
+        Twins.refusedFrom(x -> {
+            Twins.rich(x);
+            x.tear();
+        }, Check.NONE, "undo");
     }
 
     private static void tear() {
+        Check.sentence("39", "Nothing is kept: 1 if something was, else 0.");
         TunnelPeace x = new TunnelPeace();
-        Check.due("39: nothing", x.tear(), 0);
+        Check.due("nothing", x.tear(), 0);
         x.image();
         x.image();
-        Check.due("39: something", x.tear(), 1);
-        Check.due("39: nothing then", x.tear(), 0);
-        Check.due("38: none", x.undo(), Check.NONE);
+        Check.due("something", x.tear(), 1);
+        Check.due("nothing then", x.tear(), 0);
+        Check.due("none", x.undo(), Check.NONE);
         x.image();
-        Check.due("38: kept anew", x.undo(), 0);
+        Check.due("kept anew", x.undo(), 0);
+        Check.due("kept yet", x.tear(), 1);
+        TunnelPeace torn = new TunnelPeace();
+        TunnelPeace other = new TunnelPeace();
+        Twins.rich(torn);
+        Twins.rich(other);
+        torn.tear();
+        torn.image();
+        other.image();
+        Twins.dueAlike("what is stays", torn, other);
     }
 
     private static void count() {
-        TunnelPeace x = Check.tunnel("walker 0 met 4;walker 1 season 0 met 3;child 0;guns 77");
-        x.hold(3, 1);
-        x.hold(4, 1);
-        x.seed(-9);
-        x.feed(0, 3);
-        int[] due = {0, 3, 77, 7, 2, 3, -9, 2};
-        for (int what = 0; what < due.length; what++) {
-            Check.due("40: " + what, x.count(what), due[what]);
+        Check.sentence("40", "0 DAY, 1 PEOPLE, 2 GUNS, 3 MET of all together, 4 how many have a SEASON, 5 bytes of THE TAPE, 6 z,"
+                + " 7 SPOTS that hold something.");
+        int[] rich = {1, 4, 61, 11, 4, 6, -5, 3};
+        int[] first = {0, 0, 50, 0, 0, 0, 1, 0};
+        for (int what = 0; what < 8; what++) {
+            Twins.unchanged(rich[what], "count", what);
+            Check.due("of a new one " + what, new TunnelPeace().count(what), first[what]);
         }
-        x.go(4);
-        Check.due("40: day", x.count(0), 4);
-        Check.due("40: below", x.count(-1), Check.BEYOND);
-        Check.due("40: above", x.count(8), Check.BEYOND);
+        TunnelPeace x = new TunnelPeace();
+        for (int i = 0; i < 8; i++) {
+            x.person(0, i % 2);
+            x.change(i, 5, 9999);
+        }
+        for (int spot = 0; spot < 10; spot++) {
+            x.hold(spot, 7);
+        }
+        for (int i = 0; i < 30; i++) {
+            x.feed(0, 4);
+        }
+        x.guns(99);
+        x.seed(-1000001);
+        int[] most = {0, 8, 99, 79992, 8, 120, -1000001, 10};
+        for (int what = 0; what < 8; what++) {
+            Check.due("the most " + what, x.count(what), most[what]);
+        }
+        x.change(3, 3, 0);
+        Check.due("one without a season", x.count(4), 7);
+        Check.due("no finding", x.status(-1), 0);
+        Check.sentence("40", "BEYOND: another what.");
+        Twins.range("count", 0, 0, 7, 0);
     }
 
     private static void status() {
+        Check.sentence("41", "How many acts answered a finding ever (undo() takes none back): which -1: all, 0 to 6: BEYOND to SIZE.");
         TunnelPeace x = new TunnelPeace();
         for (int which = -1; which < 7; which++) {
-            Check.due("41: first " + which, x.status(which), 0);
+            Check.due("first " + which, x.status(which), 0);
         }
-        Check.due("41: below", x.status(-2), Check.BEYOND);
-        Check.due("41: above", x.status(7), Check.BEYOND);
-        Check.due("41: counted", x.status(0), 2);
+        x.guns(100);
+        x.guns(-1);
         x.person(0, 0);
         x.hold(0, 0);
         x.as(0, 1);
@@ -116,31 +190,42 @@ final class ImagesTest {
         }
         x.feed(0, 1);
         x.text();
-        int[] due = {2, 1, 1, 2, 0, 3, 1};
+        x.odds(0, 16, 0);
+        int[] due = {3, 1, 1, 2, 0, 3, 1};
         for (int which = 0; which < due.length; which++) {
-            Check.due("41: " + which, x.status(which), due[which]);
+            Check.due("status(" + which + ")", x.status(which), due[which]);
         }
-        Check.due("41: all", x.status(-1), 10);
+        Check.due("all", x.status(-1), 11);
         x.image();
         x.go(0);
         x.undo();
-        Check.due("41: undo takes none back", x.status(-1), 11);
+        Check.due("undo takes none back", x.status(-1), 12);
+        Check.due("undo takes none of them back", x.status(0), 4);
+        x.tear();
+        Check.due("nor does tear", x.status(-1), 12);
+        TunnelPeace last = DaysTest.onDay(99999);
+        last.go(1);
+        last.stroll(1);
+        Check.due("STATE", last.status(4), 2);
+        Check.due("STATE among all", last.status(-1), 2);
+        for (int i = 0; i < 500; i++) {
+            Check.due("so many", last.status(0), i);
+            last.now(8);
+        }
+        Twins.unchanged(2, "status", -1);
+        Twins.unchanged(1, "status", 0);
+        Twins.unchanged(1, "status", 5);
+        Twins.unchanged(0, "status", 6);
     }
 
-    private static void findingsChangeNothing() {
-        TunnelPeace x = Check.tunnel("walker 0 at 3;walker 1 at 9");
-        x.go(100);
-        x.stroll(100);
-        x.person(9, 9);
-        x.change(0, 2, 99);
-        x.place(3, 99);
-        x.hold(0, 9);
-        x.load(0);
-        Check.due("41: seven", x.status(-1), 7);
-        Check.due("41: day", x.now(0), 0);
-        Check.due("41: z", x.count(6), 1);
-        Check.due("41: cells", x.now(5), 1 << 3 | 1 << 9);
-        Check.due("41: people", x.count(1), 2);
-        Check.due("41: spots", x.count(7), 0);
+    private static void statusBeyond() {
+        Check.sentence("41", "BEYOND (counted from then on): another one.");
+        Twins.range("status", 0, -1, 6, 0);
+        TunnelPeace x = new TunnelPeace();
+        Check.due("below", x.status(-2), Check.BEYOND);
+        Check.due("counted", x.status(0), 1);
+        Check.due("above", x.status(7), Check.BEYOND);
+        Check.due("counted again", x.status(0), 2);
+        Check.due("among all", x.status(-1), 2);
     }
 }

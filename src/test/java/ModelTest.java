@@ -1,6 +1,3 @@
-import java.lang.reflect.Method;
-import java.util.ArrayList;
-import java.util.Comparator;
 import java.util.List;
 import java.util.Random;
 
@@ -12,7 +9,7 @@ final class ModelTest {
         "at ", "season ", "bags ", "met ", ";", ";", ";", "guns ", "place ", "0 ", "1 ", "7 ", "15", "99 ", "100", "5", "x", " "};
 
     private final Random chance;
-    private final List<Method> calls = new ArrayList<>();
+    private final List<String> names = Calls.names();
     private TunnelPeace real;
     private Model model;
     private StringBuilder log;
@@ -21,23 +18,17 @@ final class ModelTest {
 
     private ModelTest(long seed) {
         chance = new Random(seed);
-        for (Method m : TunnelPeace.class.getDeclaredMethods()) {
-            if (java.lang.reflect.Modifier.isPublic(m.getModifiers())) {
-                calls.add(m);
-            }
-        }
-        calls.sort(Comparator.comparing(Method::getName));
     }
 
-    public static void main(String[] args) throws Exception {
+    public static void main(String[] args) {
         for (int run = 0; run < RUNS; run++) {
             new ModelTest(run).go();
         }
         Check.end("ModelTest");
     }
 
-    private void go() throws Exception {
-        Check.due("40 calls there are", calls.size(), 40);
+    private void go() {
+        Check.due("40 calls there are", names.size(), 40);
         real = new TunnelPeace();
         model = new Model();
         log = new StringBuilder();
@@ -51,43 +42,30 @@ final class ModelTest {
             } else if (what == 2) {
                 gather();
             } else {
-                Method m = calls.get(chance.nextInt(calls.size()));
-                call(m, arguments(m.getName(), m.getParameterCount()));
+                String name = names.get(chance.nextInt(names.size()));
+                call(name, arguments(name, Calls.parameters(name)));
             }
         }
     }
 
-    private long call(String name, int... a) throws Exception {
-        for (Method m : calls) {
-            if (m.getName().equals(name)) {
-                return call(m, a);
-            }
-        }
-        throw new IllegalArgumentException(name);
-    }
-
-    private long call(Method m, int... a) throws Exception {
+    private long call(String name, int... a) {
         if (made == CALLS || !alike) {
             return 0;
         }
         made++;
-        Object[] boxed = new Object[a.length];
-        for (int i = 0; i < a.length; i++) {
-            boxed[i] = a[i];
-        }
-        long got = ((Number) m.invoke(real, boxed)).longValue();
-        long want = model.call(m.getName(), a);
-        log.append(m.getName()).append(java.util.Arrays.toString(a)).append(" = ").append(want).append('\n');
+        long got = Calls.call(real, name, a);
+        long want = model.call(name, a);
+        log.append(Calls.told(name, a)).append(" = ").append(want).append('\n');
         alike = got == want;
         if (!alike) {
             System.out.print(log);
         }
-        Check.due(m.getName(), got, want);
+        Check.due(name, got, want);
         return got;
     }
 
     /** A text that is often right, and sometimes not. */
-    private void feedText() throws Exception {
+    private void feedText() {
         StringBuilder text = new StringBuilder();
         for (int item = chance.nextInt(4); item >= 0; item--) {
             int kind = chance.nextInt(9);
@@ -123,7 +101,7 @@ final class ModelTest {
     }
 
     /** A sheet with the cells that somebody will be at, but for some, and what could have led there. */
-    private void tellTrueCells() throws Exception {
+    private void tellTrueCells() {
         int person = chance.nextInt(8);
         int n = chance.nextInt(8);
         int s = chance.nextInt(4);
@@ -142,7 +120,7 @@ final class ModelTest {
     }
 
     /** People near the stripe, so that they meet. */
-    private void gather() throws Exception {
+    private void gather() {
         for (int i = 0; i < 8; i++) {
             call("change", i, 2, 5 + chance.nextInt(6));
             call("change", i, 3, chance.nextInt(60));
@@ -152,7 +130,7 @@ final class ModelTest {
         }
     }
 
-    private int[] arguments(String name, int n) throws Exception {
+    private int[] arguments(String name, int n) {
         int[] a = new int[n];
         for (int i = 0; i < n; i++) {
             a[i] = argument();
@@ -178,7 +156,7 @@ final class ModelTest {
     }
 
     /** Brings arguments near to what the call takes. */
-    private void fit(String name, int[] a) throws Exception {
+    private void fit(String name, int[] a) {
         int[] most = switch (name) {
             case "guns" -> new int[] {99};
             case "place" -> new int[] {5, 15};
