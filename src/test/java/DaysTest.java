@@ -35,8 +35,8 @@ final class DaysTest {
     }
 
     private static void goTo(TunnelPeace x, int day) {
-        while (x.now(0) < day) {
-            x.go(Math.min(60, day - x.now(0)));
+        for (int left = day - x.now(0); left > 0; left -= 60) {
+            x.go(Math.min(60, left));
         }
     }
 

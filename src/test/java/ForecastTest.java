@@ -160,6 +160,13 @@ final class ForecastTest {
         Check.due("longest", Check.tunnel("merchant 0 season 99").lapses(), 99);
         Check.due("a bride", Check.tunnel("bride 0 season 99").lapses(), 74);
         Twins.unchangedFrom(x -> Check.read(x, WALKERS), 30, "lapses");
+        TunnelPeace later = Check.tunnel(WALKERS);
+        Check.due("asked once", later.lapses(), 30);
+        Check.due("asked twice", later.lapses(), 30);
+        later.go(4);
+        Check.due("four days later", later.lapses(), 26);
+        later.change(1, 3, 99);
+        Check.due("with a longer one", later.lapses(), 99);
         Check.sentence("16", "NONE.");
         Check.due("a child", Check.tunnel("walker 0;child 1 season 1").lapses(), Check.NONE);
         Twins.refused(Check.NONE, "lapses");

@@ -85,8 +85,6 @@ final class ImagesTest {
         Check.due("nobody", x.count(1), 0);
         Check.due("nothing is held", x.as(0, 0), Check.MISSING);
         Check.due("on day 0", undoneOnDay0(), 0);
-        TunnelPeace more = Check.tunnel("child 0;child 1");
-        more.image();
         TunnelPeace less = Check.tunnel("child 0;child 1;child 0");
         less.image();
         Check.read(less, "child 1;child 0");
@@ -208,9 +206,10 @@ final class ImagesTest {
         last.stroll(1);
         Check.due("STATE", last.status(4), 2);
         Check.due("STATE among all", last.status(-1), 2);
-        for (int i = 0; i < 500; i++) {
-            Check.due("so many", last.status(0), i);
-            last.now(8);
+        TunnelPeace often = new TunnelPeace();
+        for (int i = 0; i < 255; i++) {
+            often.now(8);
+            Check.due("so many", often.status(0), i + 1);
         }
         Twins.unchanged(2, "status", -1);
         Twins.unchanged(1, "status", 0);

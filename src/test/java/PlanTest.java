@@ -28,6 +28,7 @@ final class PlanTest {
         Check.due("a place for another day", x.placeFor(1, 1), 0);
         Check.due("no day", x.placeFor(0, 0), 0);
         Check.due("nobody", new TunnelPeace().placeFor(5, 40), 0);
+        Check.due("98 of 99", Check.tunnel("guns 99;soldier 0 at 4;bride 1 at 11;place 0 0").placeFor(0, 1), 7);
         TunnelPeace y = Check.tunnel("child 0 at 11;child 1 at 13;place 0 0");
         y.go(1);
         Check.due("children meet between", y.placeFor(1, 1), 12);

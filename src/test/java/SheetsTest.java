@@ -7,6 +7,7 @@ final class SheetsTest {
         as();
         asFindings();
         sheet();
+        sheetOfZeros();
         sheetFindings();
         write();
         writeFindings();
@@ -150,19 +151,33 @@ final class SheetsTest {
             Check.due("it is missing", x.judge(1), Check.MISSING);
             Check.due("missing again", x.sheet(1, 0, n), 0);
         }
-        TunnelPeace y = Check.tunnel("child 0;child 0 at 3");
-        Check.tell(y, 0, 8, 0, 3);
-        Check.due("written", y.judge(0), 0);
-        y.sheet(0, 8, 2);
-        Check.due("all 0 again", y.judge(0), 2);
-        Check.tell(y, 0, 8, 0, 3);
-        y.sheet(0, 0, 0);
-        y.sheet(0, 16, 2);
-        Check.due("all 0 behind missing", y.judge(0), 2);
-        Check.tell(y, 0, 8, 0, 3);
-        y.sheet(0, 8, 1);
-        y.sheet(0, 8, 2);
-        Check.due("all 0 where it was longer once", y.judge(0), 2);
+    }
+
+    private static void sheetOfZeros() {
+        Check.sentence("32", "A sheet has n numbers, all 0, of 8, 16 or 32 bits;");
+        for (int bits = 8; bits <= 32; bits *= 2) {
+            dueZeros(Check.tunnel("walker 0"), bits);
+            for (int between : new int[] {-1, 0, 8, 16, 32}) {
+                TunnelPeace x = Check.tunnel("walker 0");
+                x.sheet(0, bits, 40);
+                for (int i = 0; i < 40; i++) {
+                    x.write(0, i, 7);
+                }
+                x.sheet(0, between, 1);
+                dueZeros(x, bits);
+            }
+        }
+    }
+
+    /** Sheet 0 is made anew; each number is brought to its begin, and is then told as a season. */
+    private static void dueZeros(TunnelPeace x, int bits) {
+        x.sheet(0, bits, 40);
+        Check.due("number 0", x.load(0), 1);
+        Check.due("number 0", x.of(0, 3), 0);
+        for (int i = 1; i < 40; i++) {
+            x.copy(0, i, 0, 0, 1);
+            Check.due("number " + i, number(x), 0);
+        }
     }
 
     private static void sheetFindings() {

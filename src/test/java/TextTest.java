@@ -270,8 +270,12 @@ final class TextTest {
 
     private static void faultOfNumbers() {
         Check.sentence("TEXT", "FAULT: the place (from 0) of the first byte of the first TOKEN that can't stand there (a NUMBER that isn't as told,");
+        dueFault("0", 0);
+        dueFault("1", 0);
         dueFault("7", 0);
-        dueFault("  7", 2);
+        dueFault("  1", 2);
+        dueFault("1 at 3", 0);
+        dueFault("guns 3;1", 7);
         dueFault("guns 100;guns 100", 5);
         dueFault("guns 3;walker 2;x", 14);
         dueFault("walker 0 at 16 season 100", 12);

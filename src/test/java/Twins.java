@@ -152,7 +152,7 @@ final class Twins {
         for (int s = 0; s < 4; s++) {
             add(rows, x, "fits", s, 0);
             int i = 0;
-            while (x.copy(s, i, s, 0, 1) == 1) {
+            while (i < 50 && x.copy(s, i, s, 0, 1) == 1) {
                 addFirstNumber(rows, x, s);
                 i++;
             }
