@@ -43,6 +43,9 @@ final class PlanTest {
         TunnelPeace greatest = Check.tunnel("child 0 at 14;walker 1 season 0");
         greatest.go(1);
         Check.due("the greatest cell", greatest.placeFor(1, 1), 15);
+        // To stay at 15 on day 0 is best: they meet on day 2, not on day 1; from a cell 16 it would be day 3.
+        Check.due("no cell is beyond 15",
+                Check.tunnel("guns 90;place 0 8;place 1 7;place 2 9;child 0 at 12 bags 1;merchant 1").placeFor(0, 4), 15);
         dueTried(SLOW);
         Check.due("behind 40", Check.tunnel(SLOW).placeFor(1, 40), 14);
         Check.due("behind 39", Check.tunnel(SLOW).placeFor(1, 39), 0);
