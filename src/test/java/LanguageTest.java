@@ -24,6 +24,7 @@ final class LanguageTest {
 
     public static void main(String[] args) throws IOException {
         face();
+        headings();
         classes();
         words();
         lengths();
@@ -66,6 +67,30 @@ final class LanguageTest {
         for (Field f : TunnelPeace.class.getDeclaredFields()) {
             Check.that(f + " is private", Modifier.isPrivate(f.getModifiers()));
         }
+    }
+
+    /** The face's rows stand in the source as they do in the document, each group behind what the interface says ahead of it. */
+    private static void headings() throws IOException {
+        String document = Files.readString(DOCUMENT);
+        StringBuilder due = new StringBuilder("public TunnelPeace()\n");
+        Matcher group = Pattern.compile("(?m)^Ahead of the calls (.*) the interface says: (---- .*)\\.$").matcher(document);
+        int groups = 0;
+        while (group.find()) {
+            groups++;
+            due.append("// ").append(group.group(2)).append('\n');
+            for (String call : group.group(1).split(", ")) {
+                Matcher row = Pattern.compile("(?m)^    (public \\w+ " + call.replace("`", "") + "\\(.*\\));$").matcher(document);
+                Check.that(call + " is of the face", row.find());
+                due.append(row.group(1)).append('\n');
+            }
+        }
+        Check.due("groups of calls", groups, 9);
+        StringBuilder got = new StringBuilder();
+        Matcher row = Pattern.compile("(?m)^    (public [^{=;\n]*\\)|// ---- (?!help).*)(?: \\{)?$").matcher(Files.readString(SOURCE));
+        while (row.find()) {
+            got.append(row.group(1)).append('\n');
+        }
+        Check.that("the face's rows are\n" + due + "not\n" + got, due.toString().contentEquals(got));
     }
 
     private static void classes() {
